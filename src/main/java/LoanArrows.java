@@ -615,9 +615,9 @@ public final class LoanArrows {
             return parts[i * PARTS + what];
         }
 
-        boolean put(int kind, int from, int to, int number, int copy, int asker) {
+        void put(int kind, int from, int to, int number, int copy, int asker) {
             if (size == ROOM) {
-                return false;
+                return;
             }
             int start = size * PARTS;
             parts[start + KIND] = kind;
@@ -627,7 +627,6 @@ public final class LoanArrows {
             parts[start + COPY] = copy;
             parts[start + ASKER] = asker;
             size++;
-            return true;
         }
 
         boolean putAgain(int i) {

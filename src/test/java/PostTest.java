@@ -6,6 +6,7 @@ public final class PostTest {
         sendAllRefusals();
         packetRefusals();
         lettersGoOneByOne();
+        aLineHoldsOneLetterOfEachCopyBehindATakenOne();
         directionsCountApart();
         lettersComeOnceMore();
         acknowledgementsThatDoNothing();
@@ -108,6 +109,38 @@ public final class PostTest {
         Check.due("the last is acknowledged", x.deliver(0), 3);
         Check.due("pending()", x.pending(), 0);
         Check.due("place(1)", x.place(1), 17);
+    }
+
+    private static void aLineHoldsOneLetterOfEachCopyBehindATakenOne() {
+        LoanArrows x = new LoanArrows(2, 0);
+        for (int copy = 0; copy < 3; copy++) {
+            x.copyAt(copy, 0);
+        }
+        x.want(1, 0, 1);
+        x.deliver(0);
+        x.drop(0);
+        x.van(0);
+        x.want(0, 0, 2);
+        x.deliver(0);
+        x.drop(0);
+        x.lend(1, 0);
+        x.giveBack(1, 0);
+        x.want(1, 0, 3);
+        x.want(1, 2, 3);
+        x.want(1, 1, 3);
+        Check.due("the line is not sent yet", x.pending(), 0);
+        Check.due("sendAll(1)", x.sendAll(1), 1);
+        Check.packet(x, 0, 0, 1, 0, 0, 0, 1);
+        Check.due("it was taken before", x.deliver(0), 2);
+        int[] copies = {0, 2, 1};
+        for (int i = 0; i < 3; i++) {
+            Check.due("the one before is acknowledged", x.deliver(0), 3);
+            Check.due("pending()", x.pending(), 1);
+            Check.packet(x, 0, 0, 1, 0, i + 1, copies[i], 1);
+            Check.due("the next is taken", x.deliver(0), 1);
+        }
+        Check.due("the last is acknowledged", x.deliver(0), 3);
+        Check.due("the line is empty", x.sendAll(1), 0);
     }
 
     private static void directionsCountApart() {
@@ -317,13 +350,15 @@ public final class PostTest {
         Check.due("pending()", x.pending(), 1);
         Check.due("quiet with an acknowledgement in the post", x.quiet(), true);
 
-        LoanArrows y = new LoanArrows(2, 0);
-        y.copyAt(2, 0);
-        y.want(1, 2, 1);
-        y.deliver(0);
-        y.deliver(0);
-        Check.due("quiet with a van", y.quiet(), false);
-        y.van(2);
-        Check.due("quiet without it", y.quiet(), true);
+        for (int copy = 0; copy < 3; copy++) {
+            LoanArrows y = new LoanArrows(2, 0);
+            y.copyAt(copy, 0);
+            y.want(1, copy, 1);
+            y.deliver(0);
+            y.deliver(0);
+            Check.due("quiet with a van of copy " + copy, y.quiet(), false);
+            y.van(copy);
+            Check.due("quiet without it", y.quiet(), true);
+        }
     }
 }
