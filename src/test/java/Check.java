@@ -17,6 +17,12 @@ final class Check {
         }
     }
 
+    static void due(String call, String got, String due) {
+        if (!got.equals(due)) {
+            report(call + "\n  answered " + got + "\n  due is   " + due);
+        }
+    }
+
     static void outside(String call, Runnable run) {
         thrown(call, IndexOutOfBoundsException.class, run);
     }
@@ -29,7 +35,7 @@ final class Check {
         thrown(call, IllegalStateException.class, run);
     }
 
-    private static void thrown(String call, Class<? extends RuntimeException> due, Runnable run) {
+    static void thrown(String call, Class<? extends RuntimeException> due, Runnable run) {
         try {
             run.run();
         } catch (RuntimeException e) {
