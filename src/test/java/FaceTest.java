@@ -8,12 +8,31 @@ import java.util.TreeSet;
 
 /** The public face, and rule 1 of LANGUAGE.md: nothing beside it can be seen. */
 public final class FaceTest {
+    private static final String OUTSIDE = " throws IndexOutOfBoundsException";
+    private static final String ARGUMENT = " IllegalArgumentException";
+    private static final String STATE = " IllegalStateException";
+
     private static final String[] METHODS = {
-        "void copyAt(int, int)", "int want(int, int, int)", "int lend(int, int)", "int giveBack(int, int)",
-        "int van(int)", "int sendAll(int)", "int pending()", "int packet(int, int)", "int deliver(int)",
-        "int drop(int)", "boolean twin(int)", "void crash(int)", "int restart(int)", "int of(int, int, int)",
-        "int reader(int, int, int)", "int place(int)", "int chain(int, int)", "int served(int, int)",
-        "boolean leads(int, int)", "boolean quiet()"
+        "void copyAt(int, int)" + OUTSIDE + STATE,
+        "int want(int, int, int)" + OUTSIDE + ARGUMENT + STATE,
+        "int lend(int, int)" + OUTSIDE + STATE,
+        "int giveBack(int, int)" + OUTSIDE + STATE,
+        "int van(int)" + OUTSIDE + STATE,
+        "int sendAll(int)" + OUTSIDE + STATE,
+        "int pending()",
+        "int packet(int, int)" + OUTSIDE,
+        "int deliver(int)" + OUTSIDE,
+        "int drop(int)" + OUTSIDE,
+        "boolean twin(int)" + OUTSIDE,
+        "void crash(int)" + OUTSIDE + STATE,
+        "int restart(int)" + OUTSIDE + STATE,
+        "int of(int, int, int)" + OUTSIDE,
+        "int reader(int, int, int)" + OUTSIDE,
+        "int place(int)" + OUTSIDE,
+        "int chain(int, int)" + OUTSIDE,
+        "int served(int, int)" + OUTSIDE,
+        "boolean leads(int, int)" + OUTSIDE + STATE,
+        "boolean quiet()"
     };
 
     public static void main(String[] args) {
@@ -52,7 +71,11 @@ public final class FaceTest {
         for (int i = 0; i < method.getParameterCount(); i++) {
             text.append(i == 0 ? "" : ", ").append(method.getParameterTypes()[i]);
         }
-        return text.append(')').toString();
+        text.append(')');
+        for (int i = 0; i < method.getExceptionTypes().length; i++) {
+            text.append(i == 0 ? " throws " : " ").append(method.getExceptionTypes()[i].getSimpleName());
+        }
+        return text.toString();
     }
 
     private static void checkConstructors() {
